@@ -519,8 +519,8 @@ public final class AlmanacHouse {
         private int openMonthsAhead;
         private int openMonths;
 
-        private int month;
-        private int day;
+        private int monthFound;
+        private int dayFound;
 
         int rowCount() {
             return rows;
@@ -740,11 +740,11 @@ public final class AlmanacHouse {
             if (!open(calendar, yearOf(calendar, n)) || n < openFirst || n >= openNext) {
                 return false;
             }
-            month = 1;
-            while (month < openMonths && firstOf(month + 1) <= n) {
-                month++;
+            monthFound = 1;
+            while (monthFound < openMonths && firstOf(monthFound + 1) <= n) {
+                monthFound++;
             }
-            day = n - firstOf(month) + 1;
+            dayFound = n - firstOf(monthFound) + 1;
             return true;
         }
 
@@ -753,11 +753,11 @@ public final class AlmanacHouse {
         }
 
         int foundMonth() {
-            return month;
+            return monthFound;
         }
 
         int foundDay() {
-            return day;
+            return dayFound;
         }
 
         /** The weekday, or what a calendar has in its stead; n has been located. */
@@ -779,19 +779,19 @@ public final class AlmanacHouse {
             if (!open(calendar, openYear + k)) {
                 return OUTSIDE;
             }
-            return dayOrOutside(nearestDay(month, day));
+            return dayOrOutside(nearestDay(monthFound, dayFound));
         }
 
         int monthsOn(int calendar, int n, int k) {
             if (!locate(calendar, n)) {
                 return NONE;
             }
-            int number = openMonthsAhead + month - 1 + k;
+            int number = openMonthsAhead + monthFound - 1 + k;
             if (!open(calendar, yearOfMonth(calendar, number))) {
                 return OUTSIDE;
             }
             int newMonth = number - openMonthsAhead + 1;
-            return openYearHas(newMonth) ? dayOrOutside(nearestDay(newMonth, day)) : OUTSIDE;
+            return openYearHas(newMonth) ? dayOrOutside(nearestDay(newMonth, dayFound)) : OUTSIDE;
         }
 
         /** Years follow one another, so only in b's own year the added ones can come behind b. */
@@ -1516,6 +1516,7 @@ public final class AlmanacHouse {
             return v;
         }
 
+        /** A book has its head and its sum at least, so each turn comes nearer to the end. */
         int booksProved() {
             int books = 0;
             int begin = 0;

@@ -2,7 +2,9 @@ import java.util.Random;
 
 /** Runs of up to 512 calls, held answer for answer against the plain and slow house. */
 public final class RandomRunsTest {
-    private static final int RUNS = 400, CALLS = 512;
+    private static final int RUNS = 3000;
+    /** The document promises 512 calls; what a step asks beyond the last few stays below that. */
+    private static final int CALLS = 440;
     private static final int[] EDGES = {Integer.MIN_VALUE, Integer.MIN_VALUE + 1, -60001, -5001, -61, -41, -2, -1,
         0, 1, 2, 3, 7, 8, 53, 54, 60, 61, 100, 101, 127, 128, 200, 201, 1200, 5000, 5001, 60000, 60001, 1499999,
         1500000, 1500001, Integer.MAX_VALUE - 1, Integer.MAX_VALUE};
@@ -14,12 +16,16 @@ public final class RandomRunsTest {
     private final int near;
     private final AlmanacHouse house = new AlmanacHouse();
     private final PlainHouse plain = new PlainHouse();
+    /** 40 or -40 where feasts lead one another far out of their years, else 0. */
+    private final int led;
     private int rowsEnd = 0;
+    private int calls = 0;
 
     private RandomRunsTest(int run) {
         this.run = run;
         random = new Random(run);
         theme = run % 5;
+        led = new int[] {0, 40, -40}[run / 5 % 3];
         near = new int[] {0, 1, 4106, 2000, random.nextInt(4100)}[random.nextInt(5)];
     }
 
@@ -75,7 +81,7 @@ public final class RandomRunsTest {
     }
 
     private void go() {
-        for (int i = 0; i < CALLS && Check.faults() == 0; i++) {
+        while (calls < CALLS && Check.faults() == 0) {
             int kind = random.nextInt(10);
             if (kind < 3) {
                 layDown();
@@ -98,13 +104,8 @@ public final class RandomRunsTest {
                 }
             }
         }
-        int all = 0;
         for (int what = -1; what <= 7; what++) {
             same("count", house.count(what), plain.count(what), what);
-            all += what == 5 ? plain.count(5) : 0;
-        }
-        for (int i = 0; i <= all && random.nextBoolean(); i++) {
-            same("undo", house.undo(), plain.undo());
         }
     }
 
@@ -114,6 +115,7 @@ public final class RandomRunsTest {
             text.append(i == 0 ? "" : ", ").append(arguments[i]);
         }
         Check.same(text.append(")").toString(), got, due);
+        calls++;
     }
 
     private void layDown() {
@@ -172,6 +174,9 @@ public final class RandomRunsTest {
 
     private void layFeast() {
         int rule = random.nextInt(40) == 0 ? pick(0, 3) : upTo(3);
+        if (led != 0 && plain.count(2) > 0 && random.nextInt(4) > 0) {
+            rule = 3;
+        }
         int rank = random.nextBoolean() ? pick(0, 9) : between(0, 2);
         int a;
         int b;
@@ -193,6 +198,10 @@ public final class RandomRunsTest {
             default -> {
                 a = random.nextBoolean() ? plain.count(2) - 1 : pick(0, Math.max(0, plain.count(2) - 1));
                 b = random.nextBoolean() ? between(-3, 3) : pick(-40, 40);
+                if (led != 0 && random.nextInt(8) > 0) {
+                    a = plain.count(2) - 1;
+                    b = led;
+                }
             }
         }
         same("feast", house.feast(rule, a, b, c, rank), plain.feast(rule, a, b, c, rank), rule, a, b, c, rank);
@@ -304,10 +313,10 @@ public final class RandomRunsTest {
         if (random.nextBoolean()) {
             layFeast();
         }
-        for (int line = -1; line <= 28; line++) {
-            for (int i = -1; i <= 40; i++) {
-                same("sign", house.sign(line, i), plain.sign(line, i), line, i);
-            }
+        for (int many = 0; many < 40; many++) {
+            int line = random.nextInt(10) == 0 ? pick(0, 27) : upTo(12);
+            int i = random.nextInt(10) == 0 ? pick(0, 39) : upTo(30);
+            same("sign", house.sign(line, i), plain.sign(line, i), line, i);
         }
     }
 
