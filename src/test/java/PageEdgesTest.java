@@ -18,6 +18,7 @@ public final class PageEdgesTest {
         weekLines();
         numbersOfDays();
         starOrPoint();
+        bridgedAtTheEnds();
         feastOfAnotherYear();
         feastLines();
         manyFeasts();
@@ -198,6 +199,20 @@ public final class PageEdgesTest {
         h.rule(0, 1, 0, 0);
         h.page(0, 0, 0, 3);
         Check.sameText("off and a feast", week(h, 3), " 8. 9*10.11.12*13 14");
+    }
+
+    /** The first and the last day of a month are bridged by days that are not on its page. */
+    private static void bridgedAtTheEnds() {
+        AlmanacHouse h = new AlmanacHouse();
+        h.parish(64 | 2, true);
+        h.parish(1 | 32, true);
+        h.row(700, 7);
+        h.page(0, 7, 1, 1);
+        Check.sameText("Monday, by the Sunday ahead", week(h, 2), " 1. 2. 3  4  5  6  7.");
+        h.page(1, 7, 1, 1);
+        Check.sameText("Sunday, by the Monday behind", week(h, 2), " 1. 2  3  4  5  6. 7.");
+        h.page(0, 5, 0, 10);
+        Check.sameText("no day ahead of day 0", week(h, 2), " 1  2. 3  4  5  6  7.");
     }
 
     /** A feast that was moved, or lies, in another YEAR than its own is not on the page there. */

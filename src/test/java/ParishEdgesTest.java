@@ -17,7 +17,8 @@ public final class ParishEdgesTest {
         placedNotByRule();
         yearsBeside();
         rangeOfFreeDays();
-        twoYearsAway();
+        twoYearsBehind();
+        twoYearsAhead();
         bridges();
         bridgesOverTheYear();
         bridgesAtTheEnds();
@@ -178,7 +179,7 @@ public final class ParishEdgesTest {
     }
 
     /** Led on from feast to feast one lies two years away: there it frees nothing. */
-    private static void twoYearsAway() {
+    private static void twoYearsBehind() {
         AlmanacHouse h = new AlmanacHouse();
         h.parish(0, false);
         h.feast(0, 12, 31, 0, 9);
@@ -196,6 +197,28 @@ public final class ParishEdgesTest {
         Check.same("400 days on", far, NEW_YEAR + 399);
         Check.same("that day is not free", h.isOff(0, far), 0);
         Check.same("nor the days ahead", h.isOff(0, far - 10), 0);
+    }
+
+    /** The same the other way, led ahead. */
+    private static void twoYearsAhead() {
+        AlmanacHouse h = new AlmanacHouse();
+        h.parish(0, false);
+        h.feast(0, 1, 1, 0, 9);
+        for (int i = 1; i <= 10; i++) {
+            h.feast(3, i - 1, -40, 0, 9);
+        }
+        h.rule(0, 9, 10, 0);
+        h.rule(0, 10, 0, 10);
+        int before = h.feastDay(9, 2001);
+        Check.same("360 days ahead, in the year before", before, NEW_YEAR + 6);
+        Check.same("that day is free", h.isOff(0, before), 1);
+        Check.same("the first day of that year", h.isOff(0, NEW_YEAR), 1);
+        Check.same("the last of the year ahead of it", h.isOff(0, NEW_YEAR - 1), 0);
+        Check.same("in a long stretch, too", h.worked(0, NEW_YEAR - 300, NEW_YEAR + 299), 600 - 7);
+        int far = h.feastDay(10, 2001);
+        Check.same("400 days ahead", far, NEW_YEAR - 34);
+        Check.same("that day is not free", h.isOff(0, far), 0);
+        Check.same("nor the days behind", h.isOff(0, far + 10), 0);
     }
 
     /** "the days before it and behind it both are FREE": free, not only off. */
@@ -273,7 +296,8 @@ public final class ParishEdgesTest {
         Check.same("one day off", h.worked(1, 70, 70), 0);
         Check.same("800 days", h.worked(0, 70, 869), 800);
         Check.same("800 days off", h.worked(1, 70, 869), 0);
-        Check.same("800 days by bridges, both ends of them", h.worked(2, 71, 870), 0);
+        Check.same("800 days, the first a bridge", h.worked(2, 71, 870), 0);
+        Check.same("800 days, the last a bridge", h.worked(2, 70, 869), 0);
         Check.same("the first 800", h.worked(0, 0, 799), 800);
         Check.same("the last 800", h.worked(0, LAST - 799, LAST), 800);
     }

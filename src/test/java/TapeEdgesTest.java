@@ -14,12 +14,14 @@ public final class TapeEdgesTest {
         bytesOfABook();
         fifteenFeasts();
         feastsOfThatYear();
+        bridgedAtTheEnds();
         loadTaken();
         loadFull();
         bytesAsked();
         spoilt();
         wiped();
         verifyShort();
+        verifyCutOff();
         verifyDays();
         verifyEachByte();
         verifyMany();
@@ -126,6 +128,24 @@ public final class TapeEdgesTest {
         h.book(0, 2000);
         Check.same("the first day", h.byteAt(4), Scenes.NEW_YEAR_2000 % 7 + 8);
         Check.same("the last day", h.byteAt(369), (Scenes.NEW_YEAR_2000 + 365) % 7 + 16);
+    }
+
+    /** The first and the last day of a year are bridged by days of the years beside it. */
+    private static void bridgedAtTheEnds() {
+        AlmanacHouse h = new AlmanacHouse();
+        int first = Scenes.NEW_YEAR_2000 % 7;
+        int last = (Scenes.NEW_YEAR_2000 + 365) % 7;
+        h.parish(1 << (first + 6) % 7 | 1 << (first + 1) % 7, true);
+        h.parish(1 << (last + 6) % 7 | 1 << (last + 1) % 7, true);
+        h.book(0, 2000);
+        Check.same("the first day", h.byteAt(4), first + 8);
+        Check.same("the second", h.byteAt(5), (first + 1) % 7 + 8);
+        Check.same("the third", h.byteAt(6), (first + 2) % 7);
+        h.wipe();
+        h.book(1, 2000);
+        Check.same("the last day", h.byteAt(4 + 365), last + 8);
+        Check.same("the one ahead of it", h.byteAt(4 + 364), (last + 6) % 7 + 8);
+        Check.same("and ahead of that", h.byteAt(4 + 363), (last + 5) % 7);
     }
 
     /** "The n (1 .. 4) lowest bytes of v, the highest of these first". */
@@ -239,6 +259,24 @@ public final class TapeEdgesTest {
             h.load(0, 1);
             Check.same(more + " bytes behind it", h.verify(), NONE);
         }
+    }
+
+    /** A SUM that ends with a byte 0 is not there without that byte. */
+    private static void verifyCutOff() {
+        int met = 0;
+        for (int year = 0; year < 2000; year++) {
+            int s = turned(turned(turned(turned(1, year >> 8), year & 255), 0), 0);
+            if ((s & 255) == 0) {
+                met++;
+                AlmanacHouse h = new AlmanacHouse();
+                h.load(year << 16, 4);
+                h.load(s >>> 8, 3);
+                Check.same("seven bytes of year " + year, h.verify(), NONE);
+                h.load(0, 1);
+                Check.same("all eight", h.verify(), 1);
+            }
+        }
+        Check.same("there are such years", met > 0 ? 1 : 0, 1);
     }
 
     /** "each by what it tells of its days (how many bytes)": neither one more nor one less. */

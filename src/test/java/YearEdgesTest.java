@@ -16,6 +16,7 @@ public final class YearEdgesTest {
         thirteenMonths();
         tabledMoons();
         countedMoons();
+        countedBeginnings();
         weeks();
         round();
         rows();
@@ -209,6 +210,31 @@ public final class YearEdgesTest {
         Check.same("no YEAR 0", h.months(4, 0), NONE);
     }
 
+    /** E(y), in the document's words. */
+    private static long counted(long y) {
+        long m = (235 * y - 234) / 19;
+        long days = 29 * m + (12084 + 13753 * m) / 25920;
+        return 3 * (days + 1) % 7 < 3 ? days + 1 : days;
+    }
+
+    /** "K(y) is 2 if E(y + 1) - E(y) is 356, else 1 if y is above 1 and E(y) - E(y - 1) is 382, else 0." */
+    private static void countedBeginnings() {
+        int[] met = {0, 0, 0};
+        for (int year = 1; year <= 4107; year++) {
+            int k = 0;
+            if (counted(year + 1) - counted(year) == 356) {
+                k = 2;
+            } else if (year > 1 && counted(year) - counted(year - 1) == 382) {
+                k = 1;
+            }
+            met[k]++;
+            Check.same("YEAR " + year + " of 4 begins", new AlmanacHouse().toDay(4, year, 1, 1), counted(year) + k);
+        }
+        for (int k = 0; k <= 2; k++) {
+            Check.same("there are years of K " + k, met[k] > 0 ? 1 : 0, 1);
+        }
+    }
+
     /**
      * The week of the first Thursday is 1, so the fourth of the first month is in it and the 28th of the
      * last one in the last. 53 Thursdays has a year that begins with one, or a LEAP one that ends so.
@@ -266,7 +292,10 @@ public final class YearEdgesTest {
         Scenes.empty().refuses("no ROW at all", g -> g.fromDay(7, 0, 0), NONE);
         Scenes.empty().refuses("no YEAR without a ROW", g -> g.yearLength(7, 1), NONE);
         AlmanacHouse g = new AlmanacHouse();
-        g.row(0, 200);
+        g.row(3, 200);
+        Check.same("the first day of ten, from day 3 on", g.fromDay(7, 3, 3), 0);
+        Check.same("the tenth", g.fromDay(7, 12, 3), 9);
+        Check.same("and again", g.fromDay(7, 13, 3), 0);
         Check.same("one ROW is a YEAR", g.months(7, 1), 1);
         Check.same("of its days", g.yearLength(7, 1), 200);
         Check.same("and no more", g.months(7, 2), NONE);
