@@ -8,6 +8,7 @@ public final class MoonEdgesTest {
         dayZero();
         atTheBeginning();
         atTheEnd();
+        onEachWeekday();
         numbers();
         lights();
         Check.done();
@@ -54,6 +55,27 @@ public final class MoonEdgesTest {
             }
         }
         Check.same("there is one", met > 0 ? 1 : 0, 1);
+    }
+
+    /** Weeks with a moon on each of their days, and weeks without. */
+    private static void onEachWeekday() {
+        int[] met = new int[8];
+        for (int monday = 0; monday < 7 * 200; monday += 7) {
+            AlmanacHouse h = new AlmanacHouse();
+            h.parish(0, false);
+            h.page(0, 5, h.fromDay(5, monday, 0), h.fromDay(5, monday, 1));
+            int moon = 7;
+            for (int w = 0; w < 7; w++) {
+                long latest = ((monday + w + 1) * DAY - 1 - FIRST) / MONTH;
+                boolean falls = latest * MONTH + FIRST >= (monday + w) * DAY;
+                Check.same("weekday " + w + " of the week of " + monday, h.sign(2, 23 + w), falls ? 'o' : ' ');
+                moon = falls ? w : moon;
+            }
+            met[moon]++;
+        }
+        for (int w = 0; w < 8; w++) {
+            Check.same("such weeks there are: " + w, met[w] > 0 ? 1 : 0, 1);
+        }
     }
 
     /** The week with day n has its sign of the moon at that day, and at no other. */
