@@ -146,6 +146,7 @@ public final class TownEdgesTest {
         Scene full = Scenes.fullOfWords();
         full.refuses("the 301st", g -> g.name(5, 1, 301L), FULL);
         full.refuses("both full", g -> g.name(0, 1, 301L), FULL);
+        full.refuses("one that names a month of another calendar", g -> g.name(5, 1, 1L), FULL);
         full.refuses("BAD, not FULL: calendar", g -> g.name(8, 1, 301L), BAD);
         full.refuses("BAD, not FULL: month", g -> g.name(5, 54, 301L), BAD);
         full.refuses("BAD, not FULL: word", g -> g.name(5, 1, 0L), BAD);
@@ -154,6 +155,9 @@ public final class TownEdgesTest {
         g.undo();
         Check.same("one is taken back, one comes", g.name(5, 1, 300L), 1);
         Check.same("and names that one only", g.monthNamed(1, 300L), NONE);
+        Scene twice = new Scene("150 words in two calendars").times(300, (x, i) -> x.name(i / 150, i / 3 % 50 + 1, i % 150 + 1));
+        Check.same("150 words, each of two calendars, count as 300", twice.house().count(1), 300);
+        twice.refuses("and are full", x -> x.name(2, 1, 301L), FULL);
     }
 
     private static void wordsAsked() {
